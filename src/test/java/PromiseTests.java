@@ -39,6 +39,7 @@ public final class PromiseTests {
         checks.test("promise 23: patterns", PromiseTests::patterns);
         checks.test("promise 24: ifStroke", PromiseTests::ifStroke);
         checks.test("promise 25: quickest", PromiseTests::quickest);
+        checks.test("promise 25: quickest, of steps that are written", PromiseTests::quickestOfWritten);
         checks.test("promise 26: undo", PromiseTests::undo);
         checks.test("promise 27: save", PromiseTests::save);
         checks.test("promise 28: restore", PromiseTests::restore);
@@ -444,6 +445,14 @@ public final class PromiseTests {
         chosen(c, "...", 2, "---", "---");
         chosen(c, "xfxfx", 4, "RRR", "RRR");
         chosen(c, "x*", 4, "R", "R");
+        LeanSticks x = Looks.of("xLRR*dL", 2);
+        c.due("none can be played", Looks.hands(x, true), "-----");
+        x.cut(3, 4);
+        c.due("the best one when it is shorter", Looks.hands(x, true), "RLR");
+        Looks.read(x, "xxR*dL..L");
+        c.due("none can be played, with rests", Looks.hands(x, true), "-------");
+        x.cut(2, 6);
+        c.due("the best one of two", Looks.hands(x, true), "RL");
     }
 
     private static void heard(Checks c) {
@@ -465,8 +474,8 @@ public final class PromiseTests {
 
     private static void tells(Checks c, String piece, boolean over, int... byQuick) {
         for (int quick = 1; quick <= 4; quick++) {
-            LeanSticks x = Looks.of(piece, quick);
             for (int way = 0; way <= 1; way++) {
+                LeanSticks x = Looks.of(piece, quick);
                 String call = "stickings(" + over + ", " + way + ") of " + piece + " with QUICK " + quick;
                 c.due(call, x.stickings(over, way), byQuick[quick - 1]);
             }
@@ -561,6 +570,15 @@ public final class PromiseTests {
         for (int bad : new int[] {-1, 16, MIN, MAX}) {
             c.refused(x, "count(" + bad + ")", () -> x.count(bad), INVALID);
         }
+        LeanSticks all = Looks.of("4(8(>fL))");
+        c.due("accents of all", all.count(5), 32);
+        c.due("flams of all", all.count(6), 32);
+        c.due("left hands of all", all.count(3), 32);
+        all.cut(1, 31);
+        int[] left = {1, 0, 0, 1, 0, 1, 1, 0, 0, 2, 4, 2, 1, 3, 0, 2};
+        for (int what = 0; what < left.length; what++) {
+            c.due("what is cut off is not counted: count(" + what + ")", all.count(what), left[what]);
+        }
         c.due("the longest row ahead", Looks.of("RLx.RR").count(12), 3);
         c.due("the longest row behind", Looks.of("R.RR").count(12), 2);
         c.due("the longest row of rests", Looks.of("..").count(12), 0);
@@ -643,6 +661,15 @@ public final class PromiseTests {
         LeanSticks z = Looks.of("dLR");
         c.due("clashes over and over only", z.ifStroke(1, 0, 3, 0), 1);
         c.due("clashes over and over", z.ifStroke(1, 0, 3, 1), 0);
+        LeanSticks written = new LeanSticks();
+        written.stroke(0, 2, false, 3);
+        written.stroke(1, 1, true, 0);
+        written.set(3);
+        c.due("with the QUICK that is set", written.ifStroke(1, 2, 1, 0), 0);
+        c.due("of the steps that there are", written.ifStroke(1, 2, 0, 0), 2);
+        c.due("over and over", written.ifStroke(0, 2, 0, 1), 2);
+        written.set(1);
+        c.due("with another QUICK", written.ifStroke(1, 2, 1, 0), 4);
         c.due("many", Looks.of("R4(7(x))xxx").ifStroke(0, 2, 0, 1), 1000000000);
         c.due("repeated across rests", Looks.of("R..R.x").ifStroke(5, 0, 3, 2), 2);
         ifStrokeRefused(c, x);
@@ -673,6 +700,21 @@ public final class PromiseTests {
                 c.due("the state then", Looks.all(x), before);
             }
         }
+    }
+
+    private static void quickestOfWritten(Checks c) {
+        LeanSticks x = new LeanSticks();
+        x.stroke(0, 0, false, 3);
+        c.due("quickest() of one", x.quickest(), 4);
+        x.stroke(1, 0, false, 0);
+        c.due("quickest() of two", x.quickest(), 2);
+        x.stroke(1, 1, false, 1);
+        c.due("quickest() of a flam", x.quickest(), 1);
+        x.stroke(1, 1, false, 2);
+        c.due("quickest() of a drag", x.quickest(), NOT_FOUND);
+        x.undo();
+        c.due("quickest() of a flam again", x.quickest(), 1);
+        c.due("QUICK stays", x.count(11), 2);
     }
 
     private static void undo(Checks c) {
