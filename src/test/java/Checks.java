@@ -1,3 +1,8 @@
+import java.util.function.IntSupplier;
+import java.util.function.Supplier;
+import java.util.function.ToDoubleFunction;
+import java.util.function.ToIntFunction;
+
 /** Counts and tells tests; a test is a run of checks under one name. */
 final class Checks {
     private String name = "";
@@ -41,10 +46,23 @@ final class Checks {
     }
 
     /** A call that answers an error changes nothing that can be looked at. */
-    void refused(LeanSticks x, String call, java.util.function.IntSupplier run, int want) {
+    void refused(LeanSticks x, String call, IntSupplier run, int want) {
         String before = Looks.all(x);
         due(call, run.getAsInt(), want);
         due("the state after " + call, Looks.all(x), before);
+    }
+
+    /** An object that got the call holds the same as another one, made likewise, that did not. */
+    void keeps(Supplier<LeanSticks> make, String call, ToIntFunction<LeanSticks> run, int want) {
+        LeanSticks x = make.get();
+        due(call, run.applyAsInt(x), want);
+        due("everything after " + call, Looks.everything(x), Looks.everything(make.get()));
+    }
+
+    void keepsDouble(Supplier<LeanSticks> make, String call, ToDoubleFunction<LeanSticks> run, double want) {
+        LeanSticks x = make.get();
+        due(call, run.applyAsDouble(x), want);
+        due("everything after " + call, Looks.everything(x), Looks.everything(make.get()));
     }
 
     private void tell(String text) {

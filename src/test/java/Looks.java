@@ -46,6 +46,23 @@ final class Looks {
         return hands.toString();
     }
 
+    private static String pieceOf(LeanSticks x) {
+        return text(x) + "/" + x.count(11) + " ";
+    }
+
+    /**
+     * All that an object holds, also what only undo(), restore() and read() bring to light: the object
+     * is used up by it.
+     */
+    static String everything(LeanSticks x) {
+        StringBuilder told = new StringBuilder(all(x) + " why " + x.why() + " undone ");
+        for (int left = x.count(15); left > 0; left--) {
+            told.append(x.undo()).append(':').append(pieceOf(x));
+        }
+        told.append(x.undo()).append(" snapshot ").append(x.restore()).append(':').append(pieceOf(x));
+        return told.append("pad ").append(x.read()).append(':').append(pieceOf(x)).toString();
+    }
+
     /** The pad can't be looked into; its faults and its patterns are told beside its length. */
     static String all(LeanSticks x) {
         return text(x) + " quick " + x.count(11) + " pad " + x.count(14) + " " + x.fault(0) + " " + x.fault(1) + " "
